@@ -1,20 +1,15 @@
 /** Promises 20 to 24: cohorts, active users and ranks. */
 public final class CohortsTest {
     private static final Due due = new Due("CohortsTest");
-    private static final int[] NO_ID = {-1, 20, Integer.MIN_VALUE, Integer.MAX_VALUE};
 
     public static void main(String[] args) {
         cohortIsTheFirstDay();
         retainedCountsOfACohort();
-        retainedRefuses();
         activeIsASetOfUsers();
-        activeRefuses();
         activeOnEachIsOnAllDays();
-        activeOnEachRefuses();
         rankedByEvents();
         rankedBySessions();
         rankedByDepth();
-        rankedRefuses();
         due.end();
     }
 
@@ -33,9 +28,6 @@ public final class CohortsTest {
         due.is("cohort(3), merged", x.cohort(3), 1);
         x.event(8, 0, 99);
         due.is("cohort(3), the first day", x.cohort(3), 0);
-        for (int id : NO_ID) {
-            due.illegalArgument("cohort, id " + id, () -> x.cohort(id));
-        }
     }
 
     private static void retainedCountsOfACohort() {
@@ -66,16 +58,6 @@ public final class CohortsTest {
         due.is("retained(19, 0)", x.retained(19, 0), 0);
     }
 
-    private static void retainedRefuses() {
-        FunnelFold x = new FunnelFold();
-        int[][] wrong = {{-1, 0}, {20, 0}, {20, -1}, {0, -1}, {0, 20}, {19, 1}, {10, 10}, {-1, 5},
-            {5, Integer.MAX_VALUE}, {Integer.MIN_VALUE, Integer.MIN_VALUE}, {Integer.MAX_VALUE, 0}};
-        for (int[] pair : wrong) {
-            due.illegalArgument("retained(" + pair[0] + ", " + pair[1], () -> x.retained(pair[0], pair[1]));
-        }
-        due.is("retained(10, 9)", x.retained(10, 9), 0);
-    }
-
     private static void activeIsASetOfUsers() {
         FunnelFold x = new FunnelFold();
         x.event(0, 0, 100);
@@ -95,13 +77,6 @@ public final class CohortsTest {
         due.is("active(1), closed", x.active(1), 1 | 1 << 5 | 1 << 6);
     }
 
-    private static void activeRefuses() {
-        FunnelFold x = new FunnelFold();
-        for (int day : new int[] {-1, 20, Integer.MIN_VALUE, Integer.MAX_VALUE}) {
-            due.illegalArgument("active " + day, () -> x.active(day));
-        }
-    }
-
     private static void activeOnEachIsOnAllDays() {
         FunnelFold x = new FunnelFold();
         for (int day = 0; day < 20; day++) {
@@ -117,16 +92,6 @@ public final class CohortsTest {
         x.merge(5, 4);
         due.is("activeOnEach(0, 19), merged", x.activeOnEach(0, 19), 1 << 3 | 1 << 4);
         due.is("activeOnEach(1, 1), a user without events", x.activeOnEach(1, 1) >> 5, 0);
-    }
-
-    private static void activeOnEachRefuses() {
-        FunnelFold x = new FunnelFold();
-        int[][] wrong = {{-1, 0}, {0, 20}, {5, 4}, {20, 20}, {-2, -1}, {0, -1},
-            {0, Integer.MAX_VALUE}, {Integer.MIN_VALUE, 5}, {Integer.MAX_VALUE, Integer.MAX_VALUE}};
-        for (int[] pair : wrong) {
-            due.illegalArgument("activeOnEach(" + pair[0] + ", " + pair[1],
-                () -> x.activeOnEach(pair[0], pair[1]));
-        }
     }
 
     private static void isRanked(FunnelFold x, int by, int... users) {
@@ -182,20 +147,5 @@ public final class CohortsTest {
         isRanked(x, FunnelFold.DEPTH, 12, 7, 2, 19);
         x.clearFunnel();
         isRanked(x, FunnelFold.DEPTH, 2, 7, 12, 19);
-    }
-
-    private static void rankedRefuses() {
-        FunnelFold x = new FunnelFold();
-        for (int by = 0; by < 3; by++) {
-            isRanked(x, by);
-        }
-        x.event(5, 0, 0);
-        for (int by : new int[] {-1, 3, Integer.MIN_VALUE, Integer.MAX_VALUE}) {
-            due.illegalArgument("ranked(" + by + ", 0)", () -> x.ranked(by, 0));
-            due.illegalArgument("ranked(" + by + ", -1): the argument first", () -> x.ranked(by, -1));
-        }
-        due.outOfBounds("ranked(0, greatest)", () -> x.ranked(0, Integer.MAX_VALUE));
-        due.outOfBounds("ranked(0, least)", () -> x.ranked(0, Integer.MIN_VALUE));
-        isRanked(x, FunnelFold.EVENTS, 5);
     }
 }

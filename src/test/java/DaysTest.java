@@ -10,7 +10,6 @@ public final class DaysTest {
         keptSessionsIsAsWhenClosed();
         keptSessionsBeginOnTheDay();
         keptFiguresOfEachDay();
-        keptCallsRefuse();
         due.end();
     }
 
@@ -124,27 +123,6 @@ public final class DaysTest {
             due.is("keptActive " + day, x.keptActive(day), day % 4 + 1);
             due.is("keptNew " + day, x.keptNew(day), day < 4 ? 1 : 0);
             due.is("keptSessions " + day, x.keptSessions(day), day % 4 + 1);
-        }
-    }
-
-    private static void keptCallsRefuse() {
-        FunnelFold x = threeUsersOnDayZero();
-        due.outOfBounds("keptActive(0), open", () -> x.keptActive(0));
-        due.outOfBounds("keptNew(0), open", () -> x.keptNew(0));
-        due.outOfBounds("keptSessions(0), open", () -> x.keptSessions(0));
-        x.closeDay();
-        refuseAll(x, new int[] {-1, 1, 19, 20, Integer.MIN_VALUE, Integer.MAX_VALUE});
-        for (int day = 1; day < 20; day++) {
-            x.closeDay();
-        }
-        refuseAll(x, new int[] {-1, 20, Integer.MIN_VALUE, Integer.MAX_VALUE});
-    }
-
-    private static void refuseAll(FunnelFold x, int[] days) {
-        for (int day : days) {
-            due.outOfBounds("keptActive " + day, () -> x.keptActive(day));
-            due.outOfBounds("keptNew " + day, () -> x.keptNew(day));
-            due.outOfBounds("keptSessions " + day, () -> x.keptSessions(day));
         }
     }
 }

@@ -1,4 +1,5 @@
 import java.util.function.IntSupplier;
+import java.util.function.IntUnaryOperator;
 
 /** Compares answers with those that are due, and prints each one that is not. */
 final class Due {
@@ -14,16 +15,17 @@ final class Due {
         same(call, String.valueOf(got), String.valueOf(want));
     }
 
-    void isTrue(String what, boolean holds) {
-        same(what, String.valueOf(holds), "true");
-    }
-
     void same(String call, String got, String want) {
         checked++;
         if (!got.equals(want)) {
             wrong++;
             System.out.println(test + ": " + call + " answered " + got + ", due is " + want);
         }
+    }
+
+    /** Like is, for a call that may throw what it should not. */
+    void answers(String call, IntSupplier made, int want) {
+        same(call, outcome(made), String.valueOf(want));
     }
 
     void illegalArgument(String call, IntSupplier made) {
@@ -36,6 +38,36 @@ final class Due {
 
     void outOfBounds(String call, IntSupplier made) {
         same(call, outcome(made), "throws.IndexOutOfBoundsException");
+    }
+
+    /** The answers at the least and the greatest value of an argument; those outside are refused. */
+    void range(String argument, int least, int atLeast, int greatest, int atGreatest, IntUnaryOperator call) {
+        answers(argument + ", the least: " + least, () -> call.applyAsInt(least), atLeast);
+        answers(argument + ", the greatest: " + greatest, () -> call.applyAsInt(greatest), atGreatest);
+        refusedOutside(argument, least, greatest, call);
+    }
+
+    /** Each value just outside a range, and the farthest ones, are no arguments. */
+    void refusedOutside(String argument, int least, int greatest, IntUnaryOperator call) {
+        illegalArgument(argument + ", just below: " + (least - 1), () -> call.applyAsInt(least - 1));
+        illegalArgument(argument + ", just above: " + (greatest + 1), () -> call.applyAsInt(greatest + 1));
+        illegalArgument(argument + ", the least int", () -> call.applyAsInt(Integer.MIN_VALUE));
+        illegalArgument(argument + ", the greatest int", () -> call.applyAsInt(Integer.MAX_VALUE));
+    }
+
+    /** The answers for the first and the last one of count; there is none outside. */
+    void places(String argument, int count, int atFirst, int atLast, IntUnaryOperator call) {
+        answers(argument + ", the first: 0", () -> call.applyAsInt(0), atFirst);
+        answers(argument + ", the last: " + (count - 1), () -> call.applyAsInt(count - 1), atLast);
+        noneOutside(argument, count, call);
+    }
+
+    /** There is none below the first one, nor behind the last one of count. */
+    void noneOutside(String argument, int count, IntUnaryOperator call) {
+        outOfBounds(argument + ", behind the last: " + count, () -> call.applyAsInt(count));
+        outOfBounds(argument + ", ahead of the first: -1", () -> call.applyAsInt(-1));
+        outOfBounds(argument + ", the least int", () -> call.applyAsInt(Integer.MIN_VALUE));
+        outOfBounds(argument + ", the greatest int", () -> call.applyAsInt(Integer.MAX_VALUE));
     }
 
     /** What a call answers, or the exact class that it throws: one of the machine's own is another. */

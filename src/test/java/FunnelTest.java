@@ -1,14 +1,11 @@
 /** Promises 14 to 19: the funnel. */
 public final class FunnelTest {
     private static final Due due = new Due("FunnelTest");
-    private static final int[] NO_ID = {-1, 20, Integer.MIN_VALUE, Integer.MAX_VALUE};
 
     public static void main(String[] args) {
         stepAnswersHowMany();
-        stepRefuses();
         clearFunnelTakesStepsOut();
         windowAnswersTheOneBefore();
-        windowRefuses();
         depthOfOrderedEvents();
         depthGoesByOrderNotByNumber();
         depthNeedsAnEventForEachStep();
@@ -16,11 +13,9 @@ public final class FunnelTest {
         depthIsBoundByTheWindow();
         depthOfMergedUsers();
         passedCountsUsers();
-        passedRefuses();
         fastestTakesTheLeast();
         fastestIsBoundByTheWindow();
         fastestOfNothing();
-        idsAreRefused();
         due.end();
     }
 
@@ -41,14 +36,6 @@ public final class FunnelTest {
         due.illegalArgument("step(10), the 7. one", () -> x.step(10));
         due.outOfBounds("passed(6), six steps", () -> x.passed(6));
         due.is("passed(5), six steps", x.passed(5), 0);
-    }
-
-    private static void stepRefuses() {
-        FunnelFold x = new FunnelFold();
-        for (int kind : new int[] {-1, 10, Integer.MIN_VALUE, Integer.MAX_VALUE}) {
-            due.illegalArgument("step " + kind, () -> x.step(kind));
-        }
-        due.is("step(1) after refusals", x.step(1), 1);
     }
 
     private static void clearFunnelTakesStepsOut() {
@@ -73,14 +60,6 @@ public final class FunnelTest {
         due.is("window(0)", x.window(0), 100);
         due.is("window(1999)", x.window(1999), 0);
         due.is("window(5)", x.window(5), 1999);
-    }
-
-    private static void windowRefuses() {
-        FunnelFold x = new FunnelFold();
-        for (int minutes : new int[] {-1, 2000, Integer.MIN_VALUE, Integer.MAX_VALUE}) {
-            due.illegalArgument("window " + minutes, () -> x.window(minutes));
-        }
-        due.is("window(5) after refusals", x.window(5), 100);
     }
 
     private static void depthOfOrderedEvents() {
@@ -193,13 +172,6 @@ public final class FunnelTest {
         due.is("passed(1), a small window", x.passed(1), 0);
     }
 
-    private static void passedRefuses() {
-        FunnelFold x = withSteps(1, 2);
-        for (int step : new int[] {2, -1, Integer.MIN_VALUE, Integer.MAX_VALUE}) {
-            due.outOfBounds("passed " + step, () -> x.passed(step));
-        }
-    }
-
     private static void fastestTakesTheLeast() {
         FunnelFold x = withSteps(1, 2, 3);
         x.event(0, 1, 10);
@@ -250,13 +222,5 @@ public final class FunnelTest {
         due.is("fastest(0), one event for two steps", x.fastest(0), FunnelFold.NONE);
         x.event(0, 1, 130);
         due.is("fastest(0), two events of a kind", x.fastest(0), 30);
-    }
-
-    private static void idsAreRefused() {
-        FunnelFold x = withSteps(1);
-        for (int id : NO_ID) {
-            due.illegalArgument("depth, id " + id, () -> x.depth(id));
-            due.illegalArgument("fastest, id " + id, () -> x.fastest(id));
-        }
     }
 }

@@ -1,96 +1,102 @@
-/** The limits of the document all at once: 250 events of one user, 6 steps, 20 closed days, 512 calls. */
+/** An object is used for at most 512 calls, whichever they are: the last of them answers like the first. */
 public final class LimitsTest {
     private static final Due due = new Due("LimitsTest");
+    private static final int CALLS = 512;
 
     public static void main(String[] args) {
-        fullStore();
-        callsThatThrowChangeNothing();
+        allLimitsAtOnce();
+        the512thCallAsks();
+        the512thCallChanges();
+        the512thCallIsRefused();
         due.end();
     }
 
-    /** 250 events, 8 minutes apart, the last one at 1992: days 0 to 19, of the user 19 and then of 0. */
-    private static FunnelFold full() {
-        FunnelFold x = new FunnelFold();
-        for (int number = 0; number < 250; number++) {
-            x.event(19, number % 10, 8 * number);
-        }
-        for (int kind = 0; kind < 6; kind++) {
-            x.step(kind);
-        }
-        x.merge(0, 19);
+    /** 250 events, 6 steps, 20 closed days and one user of 20 ids: 295 calls that change something. */
+    private static FunnelFold atAllLimits() {
+        FunnelFold x = Stores.full(19);
+        Stores.steps(x, 0, 1, 2, 3, 4, 5);
+        Stores.mergeAll(x);
+        Stores.close(x, 20);
         return x;
     }
 
-    private static void fullStore() {
-        FunnelFold x = full();
-        due.illegalState("event", () -> x.event(0, 0, 1999));
-        due.illegalState("step", () -> x.step(0));
+    private static void allLimitsAtOnce() {
+        FunnelFold x = atAllLimits();
+        due.illegalState("event, full and closed", () -> x.event(0, 0, 1999));
+        due.illegalState("step, full", () -> x.step(0));
+        due.illegalState("closeDay, all closed", () -> x.closeDay());
         due.is("users", x.users(), 1);
-        due.is("eventsOf(19)", x.eventsOf(19), 250);
+        due.is("events", x.events(), 250);
         due.is("eventAt(19, 249)", x.eventAt(19, 249), 249);
-        due.outOfBounds("eventAt(19, 250)", () -> x.eventAt(19, 250));
         due.is("sessionEvents(19, 0)", x.sessionEvents(19, 0), 250);
-        due.is("sessionLength(19, 0)", x.sessionLength(19, 0), 1992);
-        x.gap(7);
-        due.is("sessions(19), gap 7", x.sessions(19), 250);
-        due.is("sessionEvents(19, 249)", x.sessionEvents(19, 249), 1);
-        due.is("sessionStart(19, 249)", x.sessionStart(19, 249), 1992);
-        due.is("sessionLength(19, 249)", x.sessionLength(19, 249), 0);
-        due.outOfBounds("sessionEvents(19, 250)", () -> x.sessionEvents(19, 250));
-        due.outOfBounds("sessionStart(19, 250)", () -> x.sessionStart(19, 250));
-        due.outOfBounds("sessionLength(19, 250)", () -> x.sessionLength(19, 250));
         due.is("depth(19)", x.depth(19), 6);
         due.is("passed(5)", x.passed(5), 1);
         due.is("fastest(19)", x.fastest(19), 40);
         due.is("cohort(19)", x.cohort(19), 0);
         due.is("retained(0, 19)", x.retained(0, 19), 1);
         due.is("activeOnEach(0, 19)", x.activeOnEach(0, 19), 1);
-        for (int by = 0; by < 3; by++) {
-            int measure = by;
-            due.is("ranked(" + by + ", 0)", x.ranked(by, 0), 0);
-            due.outOfBounds("ranked(" + by + ", 1)", () -> x.ranked(measure, 1));
-        }
-        for (int day = 0; day < 20; day++) {
-            due.is("closeDay", x.closeDay(), day);
-        }
-        due.illegalState("closeDay, all closed", () -> x.closeDay());
+        due.is("ranked(2, 0)", x.ranked(2, 0), 0);
         due.is("keptActive(19)", x.keptActive(19), 1);
         due.is("keptNew(0)", x.keptNew(0), 1);
-        due.is("keptNew(19)", x.keptNew(19), 0);
-        // the 12 events of the day 19: 1904, 1912 and so on to 1992
-        due.is("keptSessions(19), gap 7", x.keptSessions(19), 12);
+        due.is("keptSessions(0)", x.keptSessions(0), 1);
     }
 
-    private static String told(FunnelFold x) {
-        StringBuilder text = new StringBuilder();
-        text.append(x.events()).append(' ').append(x.users()).append(' ').append(x.closedDays());
-        for (int id = 0; id < 20; id += 19) {
-            text.append(' ').append(x.userOf(id)).append(' ').append(x.eventsOf(id));
-            text.append(' ').append(x.sessions(id)).append(' ').append(x.depth(id));
-            text.append(' ').append(x.fastest(id)).append(' ').append(x.cohort(id));
+    private static void the512thCallAsks() {
+        FunnelFold x = new FunnelFold();
+        for (int number = 0; number < 250; number++) {
+            x.event(7, 0, 1999 - number);
         }
-        for (int day = 0; day < 20; day++) {
-            text.append(' ').append(x.active(day));
+        for (int call = 250; call < CALLS - 1; call++) {
+            due.is("call " + (call + 1) + ": eventAt", x.eventAt(7, call - 250 < 250 ? call - 250 : 0),
+                call - 250 < 250 ? 249 - (call - 250) : 249);
         }
-        return text.toString();
+        due.is("call 512: sessionEvents", x.sessionEvents(7, 0), 250);
     }
 
-    private static void callsThatThrowChangeNothing() {
-        FunnelFold x = full();
-        x.closeDay();
-        String before = told(x);
-        due.illegalArgument("event(20, 0, 500)", () -> x.event(20, 0, 500));
-        due.illegalState("event(0, 0, 50)", () -> x.event(0, 0, 50));
-        due.illegalArgument("merge(1, 20)", () -> x.merge(1, 20));
-        due.illegalArgument("gap(0)", () -> x.gap(0));
-        due.illegalArgument("step(10)", () -> x.step(10));
-        due.illegalState("step(0)", () -> x.step(0));
-        due.illegalArgument("window(2000)", () -> x.window(2000));
-        due.outOfBounds("eventAt(0, 250)", () -> x.eventAt(0, 250));
-        due.outOfBounds("ranked(0, 1)", () -> x.ranked(0, 1));
-        due.outOfBounds("keptNew(1)", () -> x.keptNew(1));
-        due.same("all that is told after refusals", told(x), before);
-        due.is("gap(30) after refusals", x.gap(30), 30);
-        due.is("window(100) after refusals", x.window(100), 100);
+    private static void the512thCallChanges() {
+        FunnelFold gaps = new FunnelFold();
+        FunnelFold windows = new FunnelFold();
+        FunnelFold merges = new FunnelFold();
+        FunnelFold steps = new FunnelFold();
+        for (int call = 1; call <= CALLS; call++) {
+            String label = "call " + call + ": ";
+            due.is(label + "gap", gaps.gap(call % 500 + 1), call == 1 ? 30 : (call - 1) % 500 + 1);
+            due.is(label + "window", windows.window(call), call == 1 ? 100 : call - 1);
+            due.is(label + "merge", merges.merge(call % 20, (call + 1) % 20), lowestAfter(call));
+            if (call % 7 == 0) {
+                steps.clearFunnel();
+            } else {
+                due.is(label + "step", steps.step(call % 10), call % 7);
+            }
+        }
+    }
+
+    /** The ids are merged in their order, from 1 and 2 on; the 19. call brings in the id 0. */
+    private static int lowestAfter(int call) {
+        return call < 19 ? 1 : 0;
+    }
+
+    private static void the512thCallIsRefused() {
+        FunnelFold full = new FunnelFold();
+        for (int call = 1; call <= CALLS; call++) {
+            int number = call - 1;
+            if (call <= 250) {
+                due.is("call " + call + ": event", full.event(number % 20, 0, 5), number);
+            } else {
+                due.illegalState("call " + call + ": event", () -> full.event(0, 0, 5));
+            }
+        }
+        FunnelFold closed = new FunnelFold();
+        for (int call = 1; call <= CALLS; call++) {
+            if (call <= 20) {
+                due.is("call " + call + ": closeDay", closed.closeDay(), call - 1);
+            } else {
+                due.illegalState("call " + call + ": closeDay", () -> closed.closeDay());
+            }
+        }
+        FunnelFold wrong = new FunnelFold();
+        for (int call = 1; call <= CALLS; call++) {
+            due.illegalArgument("call " + call + ": userOf", () -> wrong.userOf(20));
+        }
     }
 }

@@ -1,11 +1,9 @@
 /** Promises 9 to 13: the gap and the sessions. */
 public final class SessionsTest {
     private static final Due due = new Due("SessionsTest");
-    private static final int[] NO_ID = {-1, 20, Integer.MIN_VALUE, Integer.MAX_VALUE};
 
     public static void main(String[] args) {
         gapAnswersTheOneBefore();
-        gapRefuses();
         gapCountsFromTheEventAhead();
         sessionsOfOneUser();
         sessionsOfMergedUsers();
@@ -13,7 +11,6 @@ public final class SessionsTest {
         sessionEventsCounts();
         sessionStartIsTheFirstTime();
         sessionLengthIsLastLessFirst();
-        sessionCallsRefuse();
         due.end();
     }
 
@@ -22,14 +19,6 @@ public final class SessionsTest {
         due.is("gap(1)", x.gap(1), 30);
         due.is("gap(500)", x.gap(500), 1);
         due.is("gap(500) again", x.gap(500), 500);
-    }
-
-    private static void gapRefuses() {
-        FunnelFold x = new FunnelFold();
-        for (int minutes : new int[] {0, -1, 501, Integer.MIN_VALUE, Integer.MAX_VALUE}) {
-            due.illegalArgument("gap " + minutes, () -> x.gap(minutes));
-        }
-        due.is("gap(2) after refusals", x.gap(2), 30);
     }
 
     private static void gapCountsFromTheEventAhead() {
@@ -117,23 +106,5 @@ public final class SessionsTest {
         due.is("sessionLength(4, 0)", x.sessionLength(4, 0), 55);
         due.is("sessionLength(4, 1)", x.sessionLength(4, 1), 10);
         due.is("sessionLength(4, 2), one event", x.sessionLength(4, 2), 0);
-    }
-
-    private static void sessionCallsRefuse() {
-        FunnelFold x = threeSessions();
-        for (int session : new int[] {3, -1, Integer.MAX_VALUE, Integer.MIN_VALUE}) {
-            due.outOfBounds("sessionEvents(4, " + session, () -> x.sessionEvents(4, session));
-            due.outOfBounds("sessionStart(4, " + session, () -> x.sessionStart(4, session));
-            due.outOfBounds("sessionLength(4, " + session, () -> x.sessionLength(4, session));
-        }
-        due.outOfBounds("sessionEvents(5, 0), no events", () -> x.sessionEvents(5, 0));
-        due.outOfBounds("sessionStart(5, 0), no events", () -> x.sessionStart(5, 0));
-        due.outOfBounds("sessionLength(5, 0), no events", () -> x.sessionLength(5, 0));
-        for (int id : NO_ID) {
-            due.illegalArgument("sessions, id " + id, () -> x.sessions(id));
-            due.illegalArgument("sessionEvents, id " + id, () -> x.sessionEvents(id, -1));
-            due.illegalArgument("sessionStart, id " + id, () -> x.sessionStart(id, -1));
-            due.illegalArgument("sessionLength, id " + id, () -> x.sessionLength(id, -1));
-        }
     }
 }
