@@ -14,6 +14,8 @@ public final class CohortEdgesTest {
         rankedBy();
         rankedRanks();
         rankedTies();
+        rankedTiesByTheIdAlone();
+        rankedBySettingsAsTheyAre();
         rankedWithTwoExceptions();
         allDaysClosed();
         due.end();
@@ -219,6 +221,53 @@ public final class CohortEdgesTest {
         for (int rank = 0; rank < 3; rank++) {
             due.is("24, no steps: all alike, rank " + rank, x.ranked(FunnelFold.DEPTH, rank), new int[] {4, 11, 18}[rank]);
         }
+    }
+
+    /** Events of an id, each a kind and a time. */
+    private static void add(FunnelFold x, int id, int... kindsAndTimes) {
+        for (int at = 0; at < kindsAndTimes.length; at += 2) {
+            x.event(id, kindsAndTimes[at], kindsAndTimes[at + 1]);
+        }
+    }
+
+    /** Promise 24: nothing but the id tells those alike apart, whatever else they have more or earlier. */
+    private static void rankedTiesByTheIdAlone() {
+        int[] late = {9, 500, 9, 501};
+        int[] early = {1, 0, 2, 90};
+        tie("more sessions, a greater depth and an earlier cohort", FunnelFold.EVENTS, late, early);
+        int[] one = {9, 500};
+        int[] three = {1, 0, 2, 1, 9, 2};
+        tie("more events, a greater depth and an earlier cohort", FunnelFold.SESSIONS, one, three);
+        int[] slow = {1, 500, 2, 590};
+        int[] fast = {1, 0, 2, 0, 9, 300, 9, 400};
+        tie("more events and sessions, a faster row and an earlier cohort", FunnelFold.DEPTH, slow, fast);
+    }
+
+    private static void tie(String more, int by, int[] less, int[] most) {
+        for (int turn = 0; turn < 2; turn++) {
+            FunnelFold x = Stores.withSteps(1, 2);
+            add(x, turn == 0 ? 11 : 4, most);
+            add(x, turn == 0 ? 4 : 11, less);
+            String call = "24, alike, by " + by + ", but the " + (turn == 0 ? "higher" : "lower") + " id has " + more;
+            due.is(call + ", rank 0", x.ranked(by, 0), 4);
+            due.is(call + ", rank 1", x.ranked(by, 1), 11);
+        }
+    }
+
+    /** Terms: told from the settings as they are when it is asked. */
+    private static void rankedBySettingsAsTheyAre() {
+        FunnelFold x = new FunnelFold();
+        add(x, 4, 1, 0, 2, 20, 9, 40);
+        add(x, 11, 1, 0, 2, 10, 9, 60);
+        Stores.steps(x, 1, 2);
+        due.is("24, by SESSIONS, the first gap", x.ranked(FunnelFold.SESSIONS, 0), 11);
+        due.is("24, by DEPTH, the first window", x.ranked(FunnelFold.DEPTH, 0), 4);
+        x.gap(10);
+        x.window(10);
+        due.is("24, by SESSIONS, a gap of 10", x.ranked(FunnelFold.SESSIONS, 0), 4);
+        due.is("24, by DEPTH, a window of 10", x.ranked(FunnelFold.DEPTH, 0), 11);
+        x.clearFunnel();
+        due.is("24, by DEPTH, no steps", x.ranked(FunnelFold.DEPTH, 0), 4);
     }
 
     /** Where two exceptions apply, the one that is listed first: IllegalArgumentException. */

@@ -15,6 +15,7 @@ public final class DayEdgesTest {
         keptSessionsAsTheyWere();
         keptBySettingsOfEachClosing();
         keptSessionsBeginOnTheDay();
+        keptOfEventsInOrder();
         keptWithManyEvents();
         due.end();
     }
@@ -198,6 +199,24 @@ public final class DayEdgesTest {
         Stores.add(other, 5, 100);
         Stores.close(other, 2);
         due.is("29, the event ahead is another user's", other.keptSessions(1), 1);
+    }
+
+    /** Terms: first and ahead are told in order, not by the numbers, also of a user merged before. */
+    private static void keptOfEventsInOrder() {
+        FunnelFold x = Stores.at(4, 150, 50, 149);
+        Stores.close(x, 2);
+        due.is("28, the first event in order has not the least number", x.keptNew(0), 1);
+        due.is("28, the least number is not the first event in order", x.keptNew(1), 0);
+        FunnelFold y = Stores.at(4, 150);
+        Stores.add(y, 9, 50);
+        y.merge(4, 9);
+        Stores.close(y, 2);
+        due.is("28, merged before, the first event in order has not the least number", y.keptNew(0), 1);
+        due.is("28, merged before, the least number is not the first event in order", y.keptNew(1), 0);
+        FunnelFold z = Stores.at(4, 120, 95);
+        Stores.close(z, 2);
+        due.is("29, the event ahead in order has the greater number", z.keptSessions(0), 1);
+        due.is("29, goes on from an event with a greater number", z.keptSessions(1), 0);
     }
 
     private static void keptWithManyEvents() {

@@ -21,6 +21,7 @@ public final class EventEdgesTest {
         eventsEdges();
         eventsOfEdges();
         eventAtPlaces();
+        eventAtOnClosedDays();
         eventAtWithTwoExceptions();
         due.end();
     }
@@ -290,6 +291,9 @@ public final class EventEdgesTest {
         FunnelFold half = Stores.at(19, 0);
         half.merge(19, 1);
         due.is("5, merged with an id that has no events", half.users(), 1);
+        Stores.add(half, 5, 1999);
+        Stores.close(half, 20);
+        due.is("5, all days closed", half.users(), 2);
     }
 
     private static void eventsEdges() {
@@ -323,6 +327,15 @@ public final class EventEdgesTest {
             FunnelFold x = Stores.full(7);
             x.merge(6, 7);
             return x.eventAt(6, place);
+        });
+    }
+
+    /** Terms: told from the events as they are; those of closed days are no others. */
+    private static void eventAtOnClosedDays() {
+        due.places("8, place, all days closed", 3, 1, 0, place -> {
+            FunnelFold x = Stores.at(7, 1999, 0, 99);
+            Stores.close(x, 20);
+            return x.eventAt(7, place);
         });
     }
 

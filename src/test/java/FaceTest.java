@@ -2,7 +2,9 @@ import java.lang.reflect.Constructor;
 import java.lang.reflect.Field;
 import java.lang.reflect.Method;
 import java.lang.reflect.Modifier;
+import java.util.ArrayList;
 import java.util.Arrays;
+import java.util.List;
 import java.util.Set;
 import java.util.TreeSet;
 
@@ -22,6 +24,9 @@ public final class FaceTest {
         due.same("methods", methods().toString(), methodsOfTheDocument().toString());
         due.same("constants", constants().toString(), "[DEPTH, EVENTS, NONE, SESSIONS]");
         due.same("constructors", constructors().toString(), "[public FunnelFold()]");
+        due.same("classes inside that are seen or are not static", classesInside().toString(), "[]");
+        due.same("private methods with the name of a public one", privateNamesakes().toString(), "[]");
+        due.same("static fields that are not final", staticState().toString(), "[]");
         due.end();
     }
 
@@ -81,5 +86,50 @@ public final class FaceTest {
             found.add(made.toString());
         }
         return found;
+    }
+
+    private static Set<String> classesInside() {
+        Set<String> found = new TreeSet<>();
+        for (Class<?> inside : FunnelFold.class.getDeclaredClasses()) {
+            int modifiers = inside.getModifiers();
+            if (Modifier.isPublic(modifiers) || Modifier.isProtected(modifiers) || !Modifier.isStatic(modifiers)) {
+                found.add(inside.toString());
+            }
+        }
+        return found;
+    }
+
+    private static Set<String> privateNamesakes() {
+        Set<String> names = new TreeSet<>();
+        for (Method method : FunnelFold.class.getMethods()) {
+            names.add(method.getName());
+        }
+        Set<String> found = new TreeSet<>();
+        for (Class<?> each : allClasses()) {
+            for (Method method : each.getDeclaredMethods()) {
+                if (Modifier.isPrivate(method.getModifiers()) && names.contains(method.getName())) {
+                    found.add(method.toString());
+                }
+            }
+        }
+        return found;
+    }
+
+    private static Set<String> staticState() {
+        Set<String> found = new TreeSet<>();
+        for (Class<?> each : allClasses()) {
+            for (Field field : each.getDeclaredFields()) {
+                if (Modifier.isStatic(field.getModifiers()) && !Modifier.isFinal(field.getModifiers())) {
+                    found.add(field.toString());
+                }
+            }
+        }
+        return found;
+    }
+
+    private static List<Class<?>> allClasses() {
+        List<Class<?>> all = new ArrayList<>(Arrays.asList(FunnelFold.class.getDeclaredClasses()));
+        all.add(FunnelFold.class);
+        return all;
     }
 }

@@ -16,9 +16,12 @@ public final class FunnelEdgesTest {
         depthOfTheStepsInTurn();
         passedSteps();
         passedUsers();
+        passedByTheWindowAsItIs();
         fastestEdges();
         fastestOfNone();
         fastestAtTheWindow();
+        choicesAmongManyEvents();
+        closedDays();
         due.end();
     }
 
@@ -231,6 +234,18 @@ public final class FunnelEdgesTest {
         due.is("18, 250 events, 6 steps", full.passed(5), 1);
     }
 
+    /** Terms: told from the settings as they are when it is asked. */
+    private static void passedByTheWindowAsItIs() {
+        FunnelFold x = add(Stores.withSteps(1, 2), 1, 0, 2, 100);
+        due.is("18, the first window", x.passed(1), 1);
+        due.is("18, a window that is set later", withWindow(x, 99).passed(1), 0);
+        due.is("18, a window that is set later, the step 0", x.passed(0), 1);
+        due.is("18, and taken back", withWindow(x, 100).passed(1), 1);
+        x.clearFunnel();
+        Stores.steps(x, 2, 1);
+        due.is("18, other steps", x.passed(1), 0);
+    }
+
     private static void fastestEdges() {
         due.range("19, id", 0, 0, 19, 0, id -> {
             FunnelFold x = Stores.allIdsAt(1999);
@@ -276,5 +291,40 @@ public final class FunnelEdgesTest {
         due.is("19, the least window, at one time", withWindow(add(Stores.withSteps(1, 2), 1, 7, 2, 7), 0).fastest(0), 0);
         due.is("19, the least window, one later",
             withWindow(add(Stores.withSteps(1, 2), 1, 7, 2, 8), 0).fastest(0), FunnelFold.NONE);
+    }
+
+    /** Terms: if there are such events, whichever they are, also behind or ahead of others of these kinds. */
+    private static void choicesAmongManyEvents() {
+        int[] secondFirst = {1, 0, 2, 10, 1, 20, 3, 30};
+        due.is("17, another first event between", add(Stores.withSteps(1, 2, 3), secondFirst).depth(0), 3);
+        due.is("19, another first event between", add(Stores.withSteps(1, 2, 3), secondFirst).fastest(0), 30);
+        int[] secondLate = {1, 0, 2, 10, 3, 20, 1, 500};
+        due.is("17, another first event behind all", add(Stores.withSteps(1, 2, 3), secondLate).depth(0), 3);
+        int[] lateRow = {1, 0, 2, 90, 1, 150, 2, 200, 3, 250};
+        due.is("17, only from the later first event", add(Stores.withSteps(1, 2, 3), lateRow).depth(0), 3);
+        due.is("19, only from the later first event", add(Stores.withSteps(1, 2, 3), lateRow).fastest(0), 100);
+        int[] skipped = {1, 0, 3, 5, 2, 10, 1, 11, 2, 12, 3, 13};
+        due.is("17, a last event ahead of the second one", add(Stores.withSteps(1, 2, 3), skipped).depth(0), 3);
+        due.is("19, a last event ahead of the second one", add(Stores.withSteps(1, 2, 3), skipped).fastest(0), 2);
+        int[] shared = {1, 0, 2, 10, 1, 20, 2, 50, 1, 60};
+        due.is("17, a kind for two steps, another between", add(Stores.withSteps(1, 2, 1), shared).depth(0), 3);
+        due.is("19, a kind for two steps, another between", add(Stores.withSteps(1, 2, 1), shared).fastest(0), 20);
+        due.is("19, an event that ends one choice begins another",
+            add(Stores.withSteps(1, 2, 1), 1, 0, 2, 30, 1, 60, 2, 65, 1, 80).fastest(0), 20);
+    }
+
+    /** Terms: told from the events as they are; those of closed days are no others. */
+    private static void closedDays() {
+        FunnelFold x = add(Stores.withSteps(1, 2), 1, 95, 2, 105, 1, 1950, 2, 1999);
+        Stores.close(x, 1);
+        due.is("17, the first step on a closed day", x.depth(0), 2);
+        due.is("18, the first step on a closed day", x.passed(1), 1);
+        due.is("19, the first step on a closed day", x.fastest(0), 10);
+        Stores.close(x, 19);
+        due.is("17, all days closed", x.depth(0), 2);
+        due.is("18, all days closed", x.passed(1), 1);
+        due.is("19, all days closed", x.fastest(0), 10);
+        due.is("14, all days closed", x.step(3), 3);
+        due.is("16, all days closed", x.window(5), 100);
     }
 }
